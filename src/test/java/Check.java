@@ -1,3 +1,8 @@
+import java.util.ArrayList;
+import java.util.EnumMap;
+import java.util.List;
+import java.util.Map;
+import java.util.TreeSet;
 import java.util.function.Consumer;
 import java.util.function.Supplier;
 
@@ -11,7 +16,7 @@ final class Check {
     static final Class<? extends RuntimeException> WRONG_ARGUMENT = IllegalArgumentException.class;
     static final Class<? extends RuntimeException> WRONG_STATE = IllegalStateException.class;
 
-    private static final int VERSIONS_LOOKED_AT = 6;
+    private static final Map<Start, List<String>> STATES = new EnumMap<>(Start.class);
     private static int wrong = 0;
 
     private Check() {
@@ -42,10 +47,8 @@ final class Check {
 
     /** The call must throw just this class, by a throw of MarginDesk's own, and change nothing. */
     static void refused(String what, Class<? extends RuntimeException> kind, Supplier<MarginDesk> make, Call call) {
-        MarginDesk desk = make.get();
-        String before = allThatShows(make.get());
         try {
-            fail(what + " answered " + call.answer(desk) + ", due is " + kind.getName());
+            fail(what + " answered " + call.answer(make.get()) + ", due is " + kind.getName());
             return;
         } catch (RuntimeException thrown) {
             if (thrown.getClass() != kind) {
@@ -55,7 +58,31 @@ final class Check {
                 fail(what + " let the machine throw " + thrown);
             }
         }
-        due(what + ": the state behind the exception", before, allThatShows(desk));
+        List<String> ahead = stateOf(make);
+        List<String> behind = State.of(() -> behindRefusal(make.get(), call));
+        for (int part = 0; part < Math.max(ahead.size(), behind.size()); part++) {
+            due(what + ": the state behind the exception", partOf(ahead, part), partOf(behind, part));
+        }
+    }
+
+    /** What is due of a call that some exceptions of its throws clause apply to: the one that is listed first. */
+    static void meets(String what, Start start, Call call,
+            boolean noSuch, boolean wrongArgument, boolean wrongState, Supplier<Integer> answer) {
+        if (noSuch || wrongArgument || wrongState) {
+            refused(what, noSuch ? NO_SUCH : wrongArgument ? WRONG_ARGUMENT : WRONG_STATE, start, call);
+        } else {
+            due(what, answer.get(), call.answer(start.get()));
+        }
+    }
+
+    /** The least and the greatest number of an argument, those one beside them, and int's own. */
+    static List<Integer> edges(int least, int greatest) {
+        return new ArrayList<>(new TreeSet<>(List.of(
+            Integer.MIN_VALUE, least - 1, least, greatest, greatest + 1, Integer.MAX_VALUE)));
+    }
+
+    static boolean outside(int number, int least, int greatest) {
+        return number < least || number > greatest;
     }
 
     /** A desk on which these calls were made. */
@@ -78,7 +105,8 @@ final class Check {
 
     static String document(MarginDesk desk) {
         StringBuilder letters = new StringBuilder();
-        for (int place = 0; place < desk.length(); place++) {
+        int length = desk.length();
+        for (int place = 0; place < length; place++) {
             letters.append((char) ('a' + desk.letterAt(place)));
         }
         return letters.toString();
@@ -95,41 +123,20 @@ final class Check {
         System.exit(wrong == 0 ? 0 : 1);
     }
 
-    /** Everything that the face tells. It uses the desk up: answers and suggestions tell by being made and accepted. */
-    private static String allThatShows(MarginDesk desk) {
-        StringBuilder shown = new StringBuilder();
-        shown.append(document(desk)).append(" version ").append(desk.version());
-        for (int place = 0; place <= desk.length(); place++) {
-            shown.append(' ').append(desk.cover(place)).append('/').append(desk.coverByLetters(place));
-        }
-        shown.append(" pieces ").append(desk.pieces());
-        shown.append(" open ").append(desk.open()).append(" orphans ").append(desk.orphans());
-        for (int comment = 0; comment < desk.comments(); comment++) {
-            shown.append(" comment ").append(desk.rangeOf(comment));
-            for (int back = 0; back < Math.min(VERSIONS_LOOKED_AT, desk.version() + 1); back++) {
-                shown.append(' ').append(desk.rangeThen(comment, desk.version() - back));
-            }
-            shown.append(" answers ").append(desk.answer(comment));
-        }
-        for (int suggestion = 0; hasSuggestion(desk, suggestion); suggestion++) {
-            shown.append(" suggestion ").append(desk.stateOf(suggestion)).append(' ').append(desk.overlaps(suggestion));
-        }
-        for (int suggestion = 0; hasSuggestion(desk, suggestion); suggestion++) {
-            try {
-                shown.append(" accepted ").append(desk.accept(suggestion)).append(' ').append(document(desk));
-            } catch (IllegalStateException refused) {
-                shown.append(" not accepted");
-            }
-        }
-        return shown.toString();
+    private static List<String> stateOf(Supplier<MarginDesk> make) {
+        return make instanceof Start ? STATES.computeIfAbsent((Start) make, State::of) : State.of(make);
     }
 
-    private static boolean hasSuggestion(MarginDesk desk, int suggestion) {
+    private static String partOf(List<String> state, int part) {
+        return part < state.size() ? state.get(part) : "nothing";
+    }
+
+    private static MarginDesk behindRefusal(MarginDesk desk, Call call) {
         try {
-            desk.stateOf(suggestion);
-            return true;
-        } catch (IndexOutOfBoundsException none) {
-            return false;
+            call.answer(desk);
+        } catch (RuntimeException refused) {
+            return desk;
         }
+        throw new IllegalStateException("the call was not refused this time");
     }
 }

@@ -9,7 +9,6 @@ final class SuggestionTest {
         statesThatStay();
         overlapsOfWaitingOnes();
         acceptedOneByOne();
-        acceptAtTheLimits();
         rejectTellsHowManyWait();
         Check.end("SuggestionTest");
     }
@@ -124,27 +123,6 @@ final class SuggestionTest {
         Check.due("the one ahead", 6, desk.accept(0));
         Check.due("the one behind", 4, desk.accept(2));
         Check.due("document", "xyyy", Check.document(desk));
-    }
-
-    private static void acceptAtTheLimits() {
-        MarginDesk full = RefusalTest.full();
-        full.suggest(0, 5, 25, 5);
-        full.suggest(7, 9, 25, 1);
-        Check.due("as long as before, 60", 60, full.accept(0));
-        Check.due("shorter", 59, full.accept(1));
-        MarginDesk at298 = RefusalTest.edited(298);
-        at298.suggest(0, 1, 3, 1);
-        Check.due("two edits up to 300", 10, at298.accept(0));
-        Check.due("version", 300, at298.version());
-        MarginDesk at299 = RefusalTest.edited(299);
-        at299.suggest(0, 1, 3, 0);
-        int length = at299.length();
-        Check.due("one edit up to 300", length - 1, at299.accept(0));
-        Check.due("version", 300, at299.version());
-        MarginDesk at300 = RefusalTest.edited(300);
-        Check.due("a suggestion is still made", 0, at300.suggest(0, 1, 3, 1));
-        Check.due("and rejected", 0, at300.reject(0));
-        Check.due("a comment is still made", 0, at300.comment(0, 1, 3));
     }
 
     private static void rejectTellsHowManyWait() {
