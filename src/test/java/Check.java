@@ -16,6 +16,9 @@ final class Check {
     static final Class<? extends RuntimeException> WRONG_ARGUMENT = IllegalArgumentException.class;
     static final Class<? extends RuntimeException> WRONG_STATE = IllegalStateException.class;
 
+    /** Numbers that a cast to byte, char or short, or a shift by them, would take for 0, 1 or 2. */
+    static final int[] WRAPPING = {32, 33, 34, 256, 257, 258, 1 << 16, (1 << 16) + 1, Integer.MIN_VALUE + 1, -256, -255};
+
     private static final Map<Start, List<String>> STATES = new EnumMap<>(Start.class);
     private static int wrong = 0;
 

@@ -27,6 +27,7 @@ final class CommentEdgesTest {
         rangeThenOfAnOrphan();
         openAtItsEdges();
         orphansAtItsEdges();
+        wrapAround();
         Check.end("CommentEdgesTest");
     }
 
@@ -393,6 +394,22 @@ final class CommentEdgesTest {
         Check.due("an orphan then, found since", -1, desk.rangeThen(0, 3));
         Check.due("found", 1, desk.rangeThen(0, 4));
         Check.due("now", 102, desk.rangeThen(0, 5));
+    }
+
+    /** Numbers far outside are not taken for those that are left of them in fewer bits. */
+    private static void wrapAround() {
+        for (int number : Check.WRAPPING) {
+            String of = "(" + number + ")";
+            Check.refused("comment from " + number, Check.NO_SUCH, Start.BUSY, d -> d.comment(number, 6, 0));
+            Check.refused("comment to " + number, Check.NO_SUCH, Start.BUSY, d -> d.comment(0, number, 0));
+            Check.refused("comment sticky " + number, Check.WRONG_ARGUMENT, Start.BUSY, d -> d.comment(0, 1, number));
+            Check.refused("answer" + of, Check.NO_SUCH, Start.NONE_LEFT, d -> d.answer(number));
+            Check.refused("resolve" + of, Check.NO_SUCH, Start.NONE_LEFT, d -> d.resolve(number) ? 1 : 0);
+            Check.refused("find" + of, Check.NO_SUCH, Start.EMPTY_AGAIN, d -> d.find(number));
+            Check.refused("rangeOf" + of, Check.NO_SUCH, Start.NONE_LEFT, d -> d.rangeOf(number));
+            Check.refused("rangeThen of " + number, Check.NO_SUCH, Start.NONE_LEFT, d -> d.rangeThen(number, 300));
+            Check.refused("rangeThen at " + number, Check.NO_SUCH, Start.BUSY, d -> d.rangeThen(0, number));
+        }
     }
 
     // ---- open, orphans

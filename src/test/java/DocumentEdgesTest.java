@@ -23,6 +23,7 @@ final class DocumentEdgesTest {
         letterAtAllEdges();
         letterAtTheEnd();
         versionAtItsEdges();
+        wrapAround();
         Check.end("DocumentEdgesTest");
     }
 
@@ -290,6 +291,23 @@ final class DocumentEdgesTest {
         Check.due("where a letter was", -1, desk.letterAt(2));
         Check.refused("behind the end", Check.NO_SUCH, () -> Check.deskWith("xaz"), d -> d.letterAt(4));
         Check.refused("ahead of the beginning", Check.NO_SUCH, () -> Check.deskWith("xaz"), d -> d.letterAt(-1));
+    }
+
+    /** Numbers far outside are not taken for those that are left of them in fewer bits. */
+    private static void wrapAround() {
+        for (int number : Check.WRAPPING) {
+            Check.refused("insert at " + number, Check.NO_SUCH, Start.BUSY, d -> d.insert(number, 0, 1));
+            Check.refused("insert of " + number, Check.WRONG_ARGUMENT, Start.BUSY, d -> d.insert(0, number, 1));
+            Check.refused("insert so many: " + number, Check.WRONG_ARGUMENT, Start.BUSY, d -> d.insert(0, 0, number));
+            Check.refused("remove at " + number, Check.NO_SUCH, Start.BUSY, d -> d.remove(number, 1));
+            Check.refused("remove so many: " + number, Check.WRONG_ARGUMENT, Start.BUSY, d -> d.remove(0, number));
+            Check.refused("letterAt(" + number + ")", Check.NO_SUCH, Start.BUSY, d -> d.letterAt(number));
+        }
+        for (int at = 1; at <= 6; at++) {
+            int place = at;
+            int past = Integer.MAX_VALUE - at + 1;
+            Check.refused("their sum is int's least", Check.WRONG_ARGUMENT, Start.BUSY, d -> d.remove(place, past));
+        }
     }
 
     // "The version is how many edits there were: insertions of letters, and taking away."

@@ -18,6 +18,7 @@ final class PieceEdgesTest {
         pieceAtFirstAndLast();
         pieceAtBelow0();
         pieceAtNotSoMany();
+        wrapAround();
         Check.end("PieceEdgesTest");
     }
 
@@ -267,6 +268,15 @@ final class PieceEdgesTest {
         Check.refused("int's least", Check.NO_SUCH, Start.BUSY, d -> d.pieceAt(Integer.MIN_VALUE));
         Check.refused("-1 of the empty one", Check.NO_SUCH, Start.EMPTY, d -> d.pieceAt(-1));
         Check.refused("-1 of 60 letters", Check.NO_SUCH, Start.FULL, d -> d.pieceAt(-1));
+    }
+
+    /** Numbers far outside are not taken for those that are left of them in fewer bits. */
+    private static void wrapAround() {
+        for (int number : Check.WRAPPING) {
+            Check.refused("cover(" + number + ")", Check.NO_SUCH, Start.BUSY, d -> d.cover(number));
+            Check.refused("coverByLetters(" + number + ")", Check.NO_SUCH, Start.BUSY, d -> d.coverByLetters(number));
+            Check.refused("pieceAt(" + number + ")", Check.NO_SUCH, Start.BUSY, d -> d.pieceAt(number));
+        }
     }
 
     // "Throws IndexOutOfBoundsException if there are not so many"

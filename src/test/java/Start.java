@@ -11,6 +11,10 @@ enum Start implements Supplier<MarginDesk> {
     /** 60 letters; a suggestion that would make 61 of them, and one that leaves 60. */
     FULL(tens("fedcba"), 6, ranges(60, 30, 3060), states(0, 0, 0, 0), Start::makeFull),
 
+    /** No letters any more: 12 orphans, 10 suggestions that are gone. */
+    EMPTY_AGAIN("", 7, ranges(-1, -1, -1, -1, -1, -1, -1, -1, -1, -1, -1, -1), states(3, 3, 3, 3, 3, 3, 3, 3, 3, 3),
+        Start::makeEmptyAgain),
+
     TWELVE_COMMENTS("abdefg", 8, ranges(1, 102, -1, 203, 304, 405, 1, 102, -1, 203, 304, 405), states(0),
         Start::makeTwelveComments),
 
@@ -147,6 +151,18 @@ enum Start implements Supplier<MarginDesk> {
         desk.suggest(10, 15, 2, 5);
         desk.suggest(20, 25, 1, 0);
         desk.suggest(58, 60, 3, 2);
+    }
+
+    private static void makeEmptyAgain(MarginDesk desk) {
+        Check.write(desk, 0, "abcdef");
+        for (int comment = 0; comment < 12; comment++) {
+            desk.comment(comment % 6, 6, comment % 4);
+        }
+        for (int suggestion = 0; suggestion < 10; suggestion++) {
+            desk.suggest(suggestion % 6, 6, suggestion, suggestion % 6);
+        }
+        desk.resolve(4);
+        desk.remove(0, 6);
     }
 
     private static void makeTwelveComments(MarginDesk desk) {

@@ -25,6 +25,7 @@ final class SuggestionEdgesTest {
         stateOfTellsEachState();
         overlapsAtItsEdges();
         overlapsOfOnesThatDoNotWait();
+        wrapAround();
         Check.end("SuggestionEdgesTest");
     }
 
@@ -403,6 +404,21 @@ final class SuggestionEdgesTest {
         desk.suggest(from, to, 0, 0);
         desk.suggest(otherFrom, otherTo, 0, 0);
         return desk;
+    }
+
+    /** Numbers far outside are not taken for those that are left of them in fewer bits. */
+    private static void wrapAround() {
+        for (int number : Check.WRAPPING) {
+            String of = "(" + number + ")";
+            Check.refused("suggest from " + number, Check.NO_SUCH, Start.BUSY, d -> d.suggest(number, 6, 0, 1));
+            Check.refused("suggest to " + number, Check.NO_SUCH, Start.BUSY, d -> d.suggest(0, number, 0, 1));
+            Check.refused("suggest the letter " + number, Check.WRONG_ARGUMENT, Start.BUSY, d -> d.suggest(0, 1, number, 1));
+            Check.refused("suggest so many: " + number, Check.WRONG_ARGUMENT, Start.BUSY, d -> d.suggest(0, 1, 0, number));
+            Check.refused("accept" + of, Check.NO_SUCH, Start.TEN_SUGGESTIONS, d -> d.accept(number));
+            Check.refused("reject" + of, Check.NO_SUCH, Start.TEN_SUGGESTIONS, d -> d.reject(number));
+            Check.refused("stateOf" + of, Check.NO_SUCH, Start.TEN_SUGGESTIONS, d -> d.stateOf(number));
+            Check.refused("overlaps" + of, Check.NO_SUCH, Start.TEN_SUGGESTIONS, d -> d.overlaps(number));
+        }
     }
 
     // "0 if it is not WAITING"; "Two suggestions that are WAITING overlap"
